@@ -598,7 +598,7 @@ public final class StationRounds {
         int at;
 
         static char signOf(int bits, int place) {
-            return (char) (bits >>> place * BITS_OF_A_SIGN & 0xFF);
+            return (char) ((bits >>> (place * BITS_OF_A_SIGN)) & 0xFF);
         }
 
         static int signsIn(int bits) {

@@ -35,6 +35,8 @@ public final class PromisesTest {
         readWrongForms();
         readWrongNumbers();
         readAllOrNone();
+        readFullPad();
+        allTwentyObservations();
         count();
         CHECK.end();
     }
@@ -642,6 +644,30 @@ public final class PromisesTest {
         dueOfText(z, -21, "0 1 1 1;".repeat(21));
         due("17: none of them", 0, () -> z.count(1));
         due("17: a new one is 0", 0, () -> z.observe(0, 0, 0, 0));
+    }
+
+    private static void readFullPad() {
+        StationRounds x = new StationRounds();
+        x.mark(0, 0, 0);
+        String row = "0 10000 10000 10000;";
+        dueOfText(x, -10, row.repeat(9) + "0 10000 -10000 00100");
+        dueOfText(x, -10, row.repeat(9) + "0 010000 -010000 10 ");
+        dueOfText(x, -10, row.repeat(9) + "0 010000 -010000 10-");
+        dueOfText(x, 10, row.repeat(10));
+        due("17: ten", 10, () -> x.count(1));
+    }
+
+    private static void allTwentyObservations() {
+        StationRounds x = square();
+        for (int i = 4; i < 20; i++) {
+            x.observe(i % 4, i % 4 == 0 || i % 4 == 3 ? 1000 : -1000, i % 4 < 2 ? 1000 : -1000, 0);
+        }
+        due("6: twenty", 20, () -> x.setUp());
+        due("10: twenty", 0L, () -> x.sum());
+        due("9: twenty", 0, () -> x.blunders(0));
+        due("8: the last one", 0, () -> x.residual(19, 1));
+        due("8: no observation 20", INDEX, () -> x.residual(20, 1));
+        due("18: twenty used", 20, () -> x.count(2));
     }
 
     private static void count() {
