@@ -45,54 +45,9 @@ public final class PromisesTest {
         CHECK.due(what, want, call);
     }
 
-    /** Four marks at the corners of a square about 0, each observed where it is; none of them misses. */
-    private static StationRounds square() {
-        StationRounds x = new StationRounds();
-        int[][] corners = {{1000, 1000}, {-1000, 1000}, {-1000, -1000}, {1000, -1000}};
-        for (int i = 0; i < 4; i++) {
-            x.mark(corners[i][0], corners[i][1], 0);
-            x.observe(i, corners[i][0], corners[i][1], 0);
-        }
-        return x;
-    }
-
-    /** The same square, but x of the marks is 100 more and less in turn: all four miss by 100 along x. */
-    private static StationRounds skewSquare() {
-        StationRounds x = new StationRounds();
-        int[][] corners = {{1000, 1000}, {-1000, 1000}, {-1000, -1000}, {1000, -1000}};
-        for (int i = 0; i < 4; i++) {
-            x.mark(corners[i][0] + (i % 2 == 0 ? 100 : -100), corners[i][1], 0);
-            x.observe(i, corners[i][0], corners[i][1], 0);
-        }
-        return x;
-    }
-
-    private static StationRounds withObservations(int many) {
-        StationRounds x = new StationRounds();
-        x.mark(0, 0, 0);
-        for (int i = 0; i < many; i++) {
-            x.observe(0, i, 0, 0);
-        }
-        return x;
-    }
-
-    private static int packed(String text, int from) {
-        int bits = 0;
-        for (int i = 0; i < 4 && from + i < text.length(); i++) {
-            bits |= text.charAt(from + i) << 8 * i;
-        }
-        return bits;
-    }
-
-    private static void write(StationRounds x, String text) {
-        for (int i = 0; i < text.length(); i += 8) {
-            x.unit(packed(text, i), packed(text, i + 4));
-        }
-    }
-
     /** Writes a text and reads it: what is due, and that the pad is empty then. */
     private static void dueOfText(StationRounds x, int want, String text) {
-        write(x, text);
+        Stands.write(x, text);
         due("read of '" + text + "'", want, () -> x.read());
         due("signs after read of '" + text + "'", 0, () -> x.count(5));
     }
@@ -157,7 +112,7 @@ public final class PromisesTest {
     }
 
     private static void observeRefusesInOrder() {
-        StationRounds x = withObservations(19);
+        StationRounds x = Stands.withObservations(19);
         due("3: no mark -1", INDEX, () -> x.observe(-1, 0, 0, 0));
         due("3: no mark 1", INDEX, () -> x.observe(1, 0, 0, 0));
         due("3: no mark, too far", INDEX, () -> x.observe(1, 10001, 0, 0));
@@ -169,7 +124,7 @@ public final class PromisesTest {
     }
 
     private static void prism() {
-        StationRounds x = square();
+        StationRounds x = Stands.square();
         due("4: first", 0, () -> x.prism(3, 1500));
         due("4: what it was", 1500, () -> x.prism(3, 3000));
         due("4: too tall", ARGUMENT, () -> x.prism(3, 3001));
@@ -185,7 +140,7 @@ public final class PromisesTest {
     }
 
     private static void use() {
-        StationRounds x = square();
+        StationRounds x = Stands.square();
         due("5: used already", false, () -> x.use(1, true));
         due("5: left out", true, () -> x.use(1, false));
         due("5: left out already", false, () -> x.use(1, false));
@@ -200,7 +155,7 @@ public final class PromisesTest {
     }
 
     private static void setUp() {
-        StationRounds x = square();
+        StationRounds x = Stands.square();
         due("6: how many", 4, () -> x.setUp());
         due("6: p", 1000000L, () -> x.turned(0));
         due("6: q", 0L, () -> x.turned(1));
@@ -290,7 +245,7 @@ public final class PromisesTest {
     }
 
     private static void residual() {
-        StationRounds x = skewSquare();
+        StationRounds x = Stands.skewSquare(100, 0);
         due("8: not set up", STATE, () -> x.residual(0, 0));
         due("8: no axis, not set up", INDEX, () -> x.residual(0, 3));
         due("8: no observation, not set up", INDEX, () -> x.residual(4, 0));
@@ -322,7 +277,7 @@ public final class PromisesTest {
     }
 
     private static void residualIsAsAtTheSetUp() {
-        StationRounds x = skewSquare();
+        StationRounds x = Stands.skewSquare(100, 0);
         x.prism(0, 40);
         x.setUp();
         due("8: with its prism", 30, () -> x.residual(0, 2));
@@ -337,7 +292,7 @@ public final class PromisesTest {
     }
 
     private static void blunders() {
-        StationRounds x = skewSquare();
+        StationRounds x = Stands.skewSquare(100, 0);
         due("9: below 0", ARGUMENT, () -> x.blunders(-1));
         due("9: above 100000", ARGUMENT, () -> x.blunders(100001));
         due("9: a refused one sets nothing up", STATE, () -> x.sum());
@@ -350,13 +305,13 @@ public final class PromisesTest {
         x.use(0, false);
         due("9: not with three", 0, () -> x.blunders(0));
         due("9: set up by three", 3, () -> x.count(2));
-        StationRounds y = square();
+        StationRounds y = Stands.square();
         due("9: nothing is above 0", 0, () -> y.blunders(0));
         due("9: all are used", 4, () -> y.count(2));
     }
 
     private static void blundersOneAtATime() {
-        StationRounds x = square();
+        StationRounds x = Stands.square();
         x.mark(500, 500, 0);
         x.observe(4, 500, 500, 4000);
         x.observe(4, 500, 800, 0);
@@ -374,7 +329,7 @@ public final class PromisesTest {
     }
 
     private static void blundersThatCannotBe() {
-        StationRounds x = square();
+        StationRounds x = Stands.square();
         x.setUp();
         for (int i = 0; i < 4; i++) {
             x.use(i, false);
@@ -387,7 +342,7 @@ public final class PromisesTest {
     }
 
     private static void sum() {
-        StationRounds x = skewSquare();
+        StationRounds x = Stands.skewSquare(100, 0);
         due("10: not set up", STATE, () -> x.sum());
         x.prism(0, 40);
         x.setUp();
@@ -514,7 +469,7 @@ public final class PromisesTest {
     }
 
     private static void open() {
-        StationRounds x = square();
+        StationRounds x = Stands.square();
         x.level(5, 5);
         x.level(6, 6);
         due("15: how many", 2, () -> x.open());
@@ -532,11 +487,11 @@ public final class PromisesTest {
         x.mark(0, 0, 0);
         due("16: none", 0, () -> x.unit(0, 0));
         due("16: 0 is none wherever it stands", 2, () -> x.unit('0' << 16, ' ' << 24));
-        due("16: lowest bits first, a ahead of b", 7, () -> x.unit(packed("1 2", 0), packed(" 3", 0)));
+        due("16: lowest bits first, a ahead of b", 7, () -> x.unit(Stands.packed("1 2", 0), Stands.packed(" 3", 0)));
         due("16: the row's end", 8, () -> x.unit(0, ';'));
         due("16: signs", 8, () -> x.count(5));
         due("16: it is '0 1 2 3;'", 1, () -> x.read());
-        write(x, "0123456789- ;");
+        Stands.write(x, "0123456789- ;");
         due("16: every sign", 13, () -> x.count(5));
     }
 
@@ -621,7 +576,7 @@ public final class PromisesTest {
     }
 
     private static void readAllOrNone() {
-        StationRounds x = withObservations(18);
+        StationRounds x = Stands.withObservations(18);
         x.setUp();
         dueOfText(x, -3, "0 5 5 5;0 6 6 6;0 7 7 7;");
         due("17: none", 18, () -> x.count(1));
@@ -658,7 +613,7 @@ public final class PromisesTest {
     }
 
     private static void allTwentyObservations() {
-        StationRounds x = square();
+        StationRounds x = Stands.square();
         for (int i = 4; i < 20; i++) {
             x.observe(i % 4, i % 4 == 0 || i % 4 == 3 ? 1000 : -1000, i % 4 < 2 ? 1000 : -1000, 0);
         }
@@ -671,7 +626,7 @@ public final class PromisesTest {
     }
 
     private static void count() {
-        StationRounds x = square();
+        StationRounds x = Stands.square();
         x.mark(0, 0, 0);
         x.use(0, false);
         x.point(0, 0, 0);
