@@ -53,6 +53,8 @@ final class EdgesOfLevels {
 
     private static void sharesRoundedDown(Edge edge) {
         edge.sentence("Terms", SHARED_OUT);
+        edge.due("one row alone, the shortest", "0", () -> closedOf(rows(77, 1)));
+        edge.due("one row alone, the longest", "0", () -> closedOf(rows(77, 10000)));
         edge.due("one row alone", "0", () -> closedOf(rows(77, 5)));
         edge.due("one row alone, below", "0", () -> closedOf(rows(-77, 5)));
         edge.due("nothing to share out", "5 -5", () -> closedOf(rows(5, 1, -5, 9)));

@@ -53,6 +53,17 @@ final class EdgesOfPlaces {
         edge.due("thirds that are whole in all", "0 0 0", () -> placeOf(y, 1, 0, 0));
         edge.due("thirds that are whole in all, below", "-1 1 0", () -> placeOf(y, -2, 0, 0));
         edge.due("thirds, next to whole", "-2 1 0", () -> placeOf(y, -3, 0, 0));
+        for (int across : new int[] {7, 49, 93, 98, 103, 107, 161, 187, 197}) {
+            StationRounds z = new StationRounds();
+            z.mark(0, 0, 0);
+            z.mark(1, -1, 0);
+            z.observe(0, 0, 0, 0);
+            z.observe(1, across, 0, 0);
+            z.setUp();
+            edge.due("whole, by 1/" + across, "1 -1 0", () -> placeOf(z, across, 0, 0));
+            edge.due("one less than whole, by 1/" + across, "0 -1 0", () -> placeOf(z, across - 1, 0, 0));
+            edge.due("one more than whole, by 1/" + across, "1 -2 0", () -> placeOf(z, across + 1, 0, 0));
+        }
     }
 
     private static void farthestPlaces(Edge edge) {

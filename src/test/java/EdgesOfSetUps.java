@@ -245,6 +245,10 @@ final class EdgesOfSetUps {
         y.use(2, false);
         y.setUp();
         edge.due("a place of 1/2, -1/2 is rounded down first", "0 1 0", () -> missesOf(y, 2));
+        StationRounds z = pair(1, -1, 49, 0);
+        z.setUp();
+        edge.due("a place that is whole, though 49 times 1/49 is less than 1 in doubles", "0 0 0",
+                () -> missesOf(z, 1));
     }
 
     private static void howManySetUp(Edge edge) {
@@ -297,7 +301,9 @@ final class EdgesOfSetUps {
     private static void millionthsRoundedDown(Edge edge) {
         edge.sentence("Promise 7", "p (0), q (1), s (2) or t (3) in millionths");
         int[][] pairs = {{1, -1, 3, 333333, -333334}, {-2, 2, 3, -666667, 666666}, {1, -1, 2, 500000, -500000},
-            {1, -1, 9999, 100, -101}, {0, 0, 3, 0, 0}, {3, -3, 3, 1000000, -1000000}, {1, -1, 10000, 100, -100}};
+            {1, -1, 9999, 100, -101}, {0, 0, 3, 0, 0}, {3, -3, 3, 1000000, -1000000}, {1, -1, 10000, 100, -100},
+            // Doubles would make one millionth less of these.
+            {41, -83, 5, 8200000, -16600000}, {-161, 82, 10, -16100000, 8200000}};
         for (int[] a : pairs) {
             StationRounds x = pair(a[0], a[1], a[2], 0);
             x.setUp();

@@ -81,11 +81,17 @@ final class EdgesOfTexts {
         }
         edge.due("the sign behind the last", Edge.STATE, () -> x.unit('1', 0));
         edge.due("the last of 200 is read, too", 10, () -> Stands.fullPad().read());
-        edge.due("the sign that lacks", -10, () -> {
+        String[] cut = {
+            "0 10000 10000 010000", "0 -10000 -10000 0100", "00 -010000 -010000 1", "00 -010000 -010000 -",
+            "000 -010000 -010000 ", "000000 -010000 -0100", "0 -10000 -010000 10 ", "                    ",
+        };
+        for (String last : cut) {
             StationRounds y = new StationRounds();
             y.mark(0, 0, 0);
-            return Stands.readOf(y, "0 10000 10000 10000;".repeat(9) + "0 10000 10000 010000");
-        });
+            Stands.write(y, "0 10000 10000 10000;".repeat(9) + last);
+            edge.due("200 signs with '" + last + "'", 200, () -> y.count(5));
+            edge.due("200 signs end with '" + last + "'", -10, () -> y.read());
+        }
     }
 
     private static void rowsOfFourNumbers(Edge edge) {
