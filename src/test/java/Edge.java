@@ -29,10 +29,15 @@ final class Edge {
         for (String line : Files.readAllLines(DOCUMENT)) {
             if (line.startsWith("## ")) {
                 section = line.substring(3).replaceAll(":.*", "");
-            } else if (section.equals("Terms") || section.startsWith("Promise") || line.contains("512 calls after")) {
+            } else if (isTold(section)) {
                 takeSentences(section, line.replaceAll("^`[^`]*`: ", ""));
             }
         }
+    }
+
+    /** The public face has a test of its own (FaceTest), and what is not promised has none. */
+    private static boolean isTold(String section) {
+        return section.equals("What it is") || section.equals("Terms") || section.startsWith("Promise");
     }
 
     private void takeSentences(String section, String paragraph) {

@@ -1,15 +1,76 @@
 /** A new object, an object that was used long, and what is counted. */
 final class EdgesOfObjects {
+    private static final String WHAT_IT_IS = "Set-ups of a station among marks";
+
     private EdgesOfObjects() {
     }
 
     static void all(Edge edge) {
+        oneByOneOrAsTexts(edge);
+        exactlyTheLeastSum(edge);
+        blundersPointsAndLoops(edge);
         lastCall(edge);
         newObject(edge);
         objectsStandAlone(edge);
         counts(edge);
         countsOfFull(edge);
         countRefuses(edge);
+    }
+
+    private static void oneByOneOrAsTexts(Edge edge) {
+        edge.sentence("What it is", WHAT_IT_IS);
+        StationRounds told = new StationRounds();
+        StationRounds written = new StationRounds();
+        for (StationRounds x : new StationRounds[] {told, written}) {
+            x.mark(500, -700, 20);
+            x.mark(-3000, 41, 60);
+            x.mark(9, 8, -7);
+            x.point(-77, 66, 5);
+        }
+        told.observe(0, -10000, 10000, 0);
+        told.observe(2, 31, -2, 3);
+        told.observe(1, 0, 12, -45);
+        told.observe(1, 7, 13, -46);
+        edge.due("as a text", 3, () -> Stands.readOf(written, "0 -10000 10000 0;2 31 -02 3;01 -0 12 -45;"));
+        edge.due("and one by one behind it", 3, () -> written.observe(1, 7, 13, -46));
+        edge.due("set up", 4, () -> told.setUp());
+        edge.due("set up by the text", 4, () -> written.setUp());
+        edge.due("they are told alike", "none",
+                () -> Trace.difference(Trace.told(told), Trace.told(written)));
+        edge.due("they are held alike", "none",
+                () -> Trace.difference(Trace.held(told), Trace.held(written)));
+    }
+
+    /** Three marks, of which no turn, scale and shift meets all; by hand, p, q, s, t are -1/2, 1, 1/3, 0. */
+    private static void exactlyTheLeastSum(Edge edge) {
+        edge.sentence("What it is", WHAT_IT_IS);
+        StationRounds x = new StationRounds();
+        x.mark(0, 0, 0);
+        x.mark(0, 1, 0);
+        x.mark(1, -1, 0);
+        x.observe(0, 0, 0, 0);
+        x.observe(1, 1, 0, 0);
+        x.observe(2, -1, 0, 0);
+        x.setUp();
+        edge.due("p", -500000L, () -> x.turned(0));
+        edge.due("q", 1000000L, () -> x.turned(1));
+        edge.due("s", 333333L, () -> x.turned(2));
+        edge.due("t", 0L, () -> x.turned(3));
+    }
+
+    private static void blundersPointsAndLoops(Edge edge) {
+        edge.sentence("What it is", WHAT_IT_IS);
+        StationRounds x = Stands.square();
+        x.observe(0, 1000, 1500, 0);
+        x.observe(2, -1900, -1000, 0);
+        x.point(123, -456, 7);
+        x.level(5, 1);
+        x.level(6, 3);
+        edge.due("blunders, both", 2, () -> x.blunders(5));
+        edge.due("the rest fits", 0L, () -> x.sum());
+        edge.due("a new point", -456, () -> x.place(0, 1));
+        edge.due("a loop's first share is 11/4, rounded down", 3, () -> x.closed(0));
+        edge.due("a loop's last share is the rest", -3, () -> x.closed(1));
     }
 
     private static void lastCall(Edge edge) {

@@ -1,6 +1,6 @@
 import java.io.IOException;
 
-/** Every sentence of the document's terms and promises, at the edges that it names. */
+/** Every sentence of what the document is about, of its terms and of its promises, at the edges that it names. */
 public final class EdgesTest {
     public static void main(String[] args) throws IOException {
         Edge edge = new Edge();

@@ -5,8 +5,9 @@ import java.lang.reflect.Modifier;
 import java.nio.file.Files;
 import java.nio.file.Path;
 import java.util.Arrays;
-import java.util.TreeSet;
+import java.util.LinkedHashSet;
 import java.util.Set;
+import java.util.TreeSet;
 import java.util.regex.Matcher;
 import java.util.regex.Pattern;
 
@@ -20,6 +21,8 @@ public final class FaceTest {
         faceIsTheDocuments();
         nothingElseCanBeSeen();
         privateNamesDiffer();
+        classesStaySmall();
+        libraryIsTheListed();
         machineExceptionsAreNotCaught();
         CHECK.end();
     }
@@ -76,6 +79,35 @@ public final class FaceTest {
             CHECK.due(method.getName() + " bears a public name, but is private", false,
                     () -> Modifier.isPrivate(method.getModifiers()) && open.contains(method.getName()));
         }
+    }
+
+    /** Rules 5 and 11 of LANGUAGE.md. */
+    private static void classesStaySmall() {
+        Set<Class<?>> all = new LinkedHashSet<>(Arrays.asList(StationRounds.class.getDeclaredClasses()));
+        all.add(StationRounds.class);
+        CHECK.due("some twelve classes at most", true, () -> all.size() <= 12);
+        for (Class<?> one : all) {
+            for (Method method : one.getDeclaredMethods()) {
+                CHECK.due(one.getName() + "." + method.getName() + " takes seven parameters at most", true,
+                        () -> method.getParameterCount() <= 7);
+            }
+            for (Field field : one.getDeclaredFields()) {
+                int kind = field.getModifiers();
+                CHECK.due(one.getName() + "." + field.getName() + ", if static, is a constant", true,
+                        () -> !Modifier.isStatic(kind) || Modifier.isFinal(kind) && field.getType().isPrimitive());
+            }
+        }
+    }
+
+    /** Rule 4 of LANGUAGE.md: of the library the program calls functions of Math alone, and these. */
+    private static void libraryIsTheListed() throws IOException {
+        Set<String> called = new TreeSet<>();
+        Matcher call = Pattern.compile("\\b(?:Math|Integer|Long|System|Arrays|List)\\.\\w+")
+                .matcher(Files.readString(PROGRAM));
+        while (call.find()) {
+            called.add(call.group());
+        }
+        CHECK.due("the library's functions", "[Math.floorDiv, Math.max]", () -> called);
     }
 
     private static void machineExceptionsAreNotCaught() throws IOException {
